@@ -43,6 +43,7 @@ public final class PromisesTest {
         now();
         ahead();
         seenAndWhen();
+        twoHundredYears();
         murkyAndTreaty();
         stirForAndPut();
         kindForAndHoldsFor();
@@ -433,6 +434,28 @@ public final class PromisesTest {
         due("seen none in 200", NONE, late.seen(1));
     }
 
+    /** Found by search: what comes to pass behind just 200 years, and so behind no more of them later on. */
+    private static void twoHundredYears() {
+        String[] texts = {
+            "lye0;veil in6 holds704;veil in6 of2 holds398;dye6 0 4;dye7 2 29",
+            "lye0;dress in7 of0 holds960;thing in6 of2 holds777;veil in0 of1 holds371;dress in3 of1 holds754",
+            "lye0;dress in7 of0 holds927;veil in0 of1 holds951;thing in6 of1 holds764;dress in0 of2 holds605"};
+        for (int i = 0; i < texts.length; i++) {
+            SoakTub x = new SoakTub();
+            due("it reads " + texts[i], 1, read(x, texts[i]) > 0 ? 1 : 0);
+            due("behind 200 years", 200, at200(x, i));
+            x.go(1);
+            due("behind 199 years", 199, at200(x, i));
+        }
+        SoakTub x = new SoakTub();
+        read(x, texts[0]);
+        due("treaty behind 200 years", 200, x.treaty(0, 1));
+    }
+
+    private static int at200(SoakTub x, int i) {
+        return i == 0 ? x.when(1, 0) : i == 1 ? x.seen(0) : x.murky(0);
+    }
+
     private static void murkyAndTreaty() {
         SoakTub x = new SoakTub();
         due("murky never", NONE, x.murky(7));
@@ -512,6 +535,12 @@ public final class PromisesTest {
         y.dye(7, 0, 0);
         due("13 aren't", NONE, y.holdsFor(0, 1));
         due("but behind 40 years, the first loss counts", NONE, y.holdsFor(0, 40));
+        SoakTub z = new SoakTub();
+        read(z, "lye 9;thing in 7 of 2;thing in 7 of 1 holds 200");
+        due("as much as the other", 200, z.holdsFor(0, 40));
+        due("behind 15 years both gave 195", 195, z.holdsFor(0, 15));
+        read(z, "dye 7 1 1");
+        due("201 are too many", NONE, z.holdsFor(0, 40));
     }
 
     private static void lyeForAndOut() {
@@ -581,6 +610,21 @@ public final class PromisesTest {
         x.write(1, 1, 2);
         due("the layer in which it is now, of what it bled there", 2, x.held(1, 0, 0));
         due("what it holds stays", 60, x.of(0, 3));
+        SoakTub y = new SoakTub();
+        read(y, "thing in 7;lye 9");
+        y.sheet(0, 16, 17);
+        for (int i = 0; i < 16; i++) {
+            y.write(0, i, -1);
+        }
+        y.write(0, 16, 199);
+        due("199 in 16 years", 1, y.fits(0, 0, 0));
+        due("199 held", 199, y.held(0, 0, 0));
+        y.write(0, 16, 200);
+        due("200 in 16 years", 1, y.fits(0, 0, 0));
+        due("200 held", 200, y.held(0, 0, 0));
+        y.write(0, 16, 201);
+        due("201 can't be held", 0, y.fits(0, 0, 0));
+        due("201 isn't held", NONE, y.held(0, 0, 0));
     }
 
     private static void kinds() {
@@ -711,6 +755,16 @@ public final class PromisesTest {
         due("stir one and the same", 1, read(x, "stir 3 3"));
         due("blanks between, and none", 1, read(x, "stone in7of2holds000000000000000000000000003   "));
         due("leading zeros", 3, x.of(7, 3));
+        due("all but 0", 4, read(x, "dye 1 1 5;stir 1 0;stir 0 0;lye 0"));
+        due("lye 0", 0, x.lye(1));
+        due("dye with stir 1 0", 5, x.layer(0, 1));
+        due("a dye of 0", 1, read(x, "dye 0 1 0"));
+        due("a dye of 0 is so", 0, x.layer(0, 1));
+        SoakTub y = new SoakTub();
+        due("a thing of 0", 1, read(y, "veil in 0 of 0 holds 0"));
+        for (int what = 1; what < 6; what++) {
+            due("0 of " + what, 0, y.of(0, what));
+        }
         due("the tape is empty then", 0, x.count(5));
         due("no finding", 0, x.status(-1));
     }
@@ -721,13 +775,13 @@ public final class PromisesTest {
             "thing holds 1 of 1", "thing in 1 in 1", "dye 8 0 0", "dye 0 3 0", "dye 0 0 1000", "dye 0 0", "lye 10",
             "stir 0 8", "stir 0", "sock", "things", "thing thing", "thing 3", "3", ";", "thing;;thing", "Thing",
             "thing\tin 3", "thing-", "thing in x", "lye 4294967297", "lye ", "in 3", "thing in7x", "thing\u00e9",
-            "holds 3", "dye 0 0 0 0", "lye lye"};
+            "holds 3", "dye 0 0 0 0", "lye lye", "thingz", "thing;athing", "thing:in 3", "lye 0`", "lye 0{", "lye /"};
         int[] places = {
             0, 1, 8, 6, 9, 9, 12, 11,
             14, 11, 4, 6, 8, 7, 4,
             7, 6, 0, 0, 6, 6, 0, 0, 6, 0,
             5, 5, 9, 4, 4, 0, 9, 5,
-            0, 10, 4};
+            0, 10, 4, 0, 6, 5, 5, 5, 4};
         for (int i = 0; i < texts.length; i++) {
             SoakTub x = new SoakTub();
             x.lye(5);
