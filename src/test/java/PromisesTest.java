@@ -450,6 +450,16 @@ public final class PromisesTest {
         SoakTub x = new SoakTub();
         read(x, texts[0]);
         due("treaty behind 200 years", 200, x.treaty(0, 1));
+        SoakTub y = new SoakTub();
+        read(y, "lye0;dress in7 of2 holds904;veil in2 of1 holds400;thing in4 of0 holds231;veil in2 of2 holds728");
+        due("treaty behind 201 years", NONE, y.treaty(0, 1));
+        y.go(1);
+        due("treaty behind 200 of them", 200, y.treaty(1, 0));
+        SoakTub z = new SoakTub();
+        read(z, "lye2;dress in7 of2 holds902;veil in4 of1 holds934;stone in4 of2 holds756;veil in4 of0 holds600");
+        due("when behind 201 years", NONE, z.when(0, 1));
+        z.go(1);
+        due("when behind 200 of them", 200, z.when(0, 1));
     }
 
     private static int at200(SoakTub x, int i) {
@@ -565,6 +575,20 @@ public final class PromisesTest {
         due("out the least of several", 1, x.out(7, 1));
         x.dye(7, 2, 10);
         due("out none helps", NONE, x.out(7, 1));
+        due("out 0", NONE, x.out(7, 0));
+        x.dye(7, 2, 9);
+        due("out 0, clear as it is", 0, x.out(7, 0));
+        due("out all", 15, x.out(7, 1));
+        for (int i = 4; i < 8; i++) {
+            x.thing(6, 7);
+        }
+        due("out all eight", 255, x.out(7, 1));
+        x.dye(7, 2, 8);
+        due("out all but one medal, the last", 127, x.out(7, 1));
+        for (int i = 4; i < 8; i++) {
+            x.change(i, 3, 0);
+        }
+        x.dye(7, 2, 10);
         due("out 21", BEYOND, x.out(7, 21));
         due("out -1", BEYOND, x.out(7, -1));
         due("out layer", BEYOND, x.out(-1, 1));
@@ -670,7 +694,7 @@ public final class PromisesTest {
         y.change(0, 5, 7);
         y.thing(5, 7);
         y.change(1, 5, 3);
-        // Either draw of 0, then 0: the layers are like, nothing is stirred.
+        // Stirred with another layer, the veil would be elsewhere, and not come up.
         y.seed(zThatDrawsTwoAlike());
         due("sticks alike", 11, y.sticks(1));
     }
