@@ -59,8 +59,8 @@ public final class SoakTub {
     private final Tub trial = new Tub();
     private final Tub kept = new Tub();
     private boolean isKept = false;
-    private final Tape tape = new Tape();
-    private final TextReader reader = new TextReader(tape);
+    private final TextReader reader = new TextReader();
+    private final Tape tape = reader.tape;
     private final Sheet[] sheets = new Sheet[SHEETS];
     private final int[] findings = new int[FINDINGS];
 
@@ -1170,15 +1170,11 @@ public final class SoakTub {
         private static final int END = 3;
         private static final int OTHER = 4;
 
-        private final Tape tape;
+        final Tape tape = new Tape();
         private int token;
         private int start;
         private int end;
         private int number;
-
-        TextReader(Tape read) {
-            tape = read;
-        }
 
         /** How many items, all of them done to a tub; or -1 less the fault. */
         int readInto(Tub tub) {
