@@ -74,6 +74,7 @@ public final class BoundsTest {
         outTheFewest();
         outFirstAndLastYear();
         outIsOver();
+        askedFirst();
         fitsAndHeld();
         fitsByFortyNumbers();
         kinds();
@@ -396,19 +397,11 @@ public final class BoundsTest {
     /** Of some tubs, the pair by trying each of them on a tub of its own. */
     private static void stirFor() {
         for (String text : STIRRED_OR_PUT) {
-            for (int n : new int[] {0, 1, 7, 12, 29, 30}) {
-                int best = -1;
-                int most = -1;
-                for (int pair = 0; pair < 64; pair++) {
-                    if (pair / 8 < pair % 8) {
-                        SoakTub x = tub(text);
-                        x.stir(pair / 8, pair % 8);
-                        int times = goOn(x, n).of(0, SEEN);
-                        best = times > most ? pair : best;
-                        most = Math.max(times, most);
-                    }
+            for (int thing = 0; thing < tub(text).count(1); thing++) {
+                for (int n : new int[] {0, 1, 7, 12, 29, 30}) {
+                    String what = "stirFor(" + thing + ", " + n + ") in '" + text + "'";
+                    due(what, bestPair(text, thing, n), tub(text).stirFor(thing, n));
                 }
-                due("stirFor in '" + text + "' behind " + n, best, tub(text).stirFor(0, n));
             }
         }
         due("the last pair", 8 * 6 + 7, tub(STIRRED_OR_PUT[1]).stirFor(0, 12));
@@ -418,19 +411,42 @@ public final class BoundsTest {
         due("up in 7 years as it is", 1, tub("veil in 7").stirFor(0, 7));
     }
 
+    private static int bestPair(String text, int thing, int n) {
+        int best = -1;
+        int most = -1;
+        for (int pair = 0; pair < 64; pair++) {
+            if (pair / 8 < pair % 8) {
+                SoakTub x = tub(text);
+                x.stir(pair / 8, pair % 8);
+                int times = goOn(x, n).of(thing, SEEN);
+                best = times > most ? pair : best;
+                most = Math.max(times, most);
+            }
+        }
+        return best;
+    }
+
+    /** What a thing must be for most of another sort, by trying each on a tub of its own. */
+    private static int bestToBe(String text, int thing, int what, int last, int told, int n) {
+        int best = -1;
+        int most = -1;
+        for (int v = 0; v <= last; v++) {
+            SoakTub x = tub(text);
+            x.change(thing, what, v);
+            int much = goOn(x, n).of(thing, told);
+            best = much > most ? v : best;
+            most = Math.max(much, most);
+        }
+        return best;
+    }
+
     private static void put() {
         for (String text : STIRRED_OR_PUT) {
-            for (int n : new int[] {0, 1, 9, 11, 29, 30}) {
-                int best = -1;
-                int most = -1;
-                for (int layer = 0; layer < 8; layer++) {
-                    SoakTub x = tub(text);
-                    x.change(0, LAYER, layer);
-                    int times = goOn(x, n).of(0, SEEN);
-                    best = times > most ? layer : best;
-                    most = Math.max(times, most);
+            for (int thing = 0; thing < tub(text).count(1); thing++) {
+                for (int n : new int[] {0, 1, 9, 11, 29, 30}) {
+                    String what = "put(" + thing + ", " + n + ") in '" + text + "'";
+                    due(what, bestToBe(text, thing, LAYER, 7, SEEN, n), tub(text).put(thing, n));
                 }
-                due("put in '" + text + "' behind " + n, best, tub(text).put(0, n));
             }
         }
         due("layer 7", 7, tub(STIRRED_OR_PUT[3]).put(0, 11));
@@ -446,17 +462,11 @@ public final class BoundsTest {
             "lye 7;dye 4 1 48;dye 1 1 11;glove in 4 holds 5;dye 0 2 80",
             "veil in 7;stone in 3", "thing in 7 holds 0", "dance in 7 holds 995;dye 7 1 99"};
         for (String text : texts) {
-            for (int n : new int[] {0, 1, 2, 3, 4, 39, 40}) {
-                int best = -1;
-                int most = -1;
-                for (int kind = 0; kind < 7; kind++) {
-                    SoakTub x = tub(text);
-                    x.change(0, KIND, kind);
-                    int holds = goOn(x, n).of(0, HOLDS);
-                    best = holds > most ? kind : best;
-                    most = Math.max(holds, most);
+            for (int thing = 0; thing < tub(text).count(1); thing++) {
+                for (int n : new int[] {0, 1, 2, 3, 4, 39, 40}) {
+                    String what = "kindFor(" + thing + ", " + n + ") in '" + text + "'";
+                    due(what, bestToBe(text, thing, KIND, 6, HOLDS, n), tub(text).kindFor(thing, n));
                 }
-                due("kindFor in '" + text + "' behind " + n, best, tub(text).kindFor(0, n));
             }
         }
         due("no years: all the same", 0, tub("medal in 7").kindFor(0, 0));
@@ -560,6 +570,51 @@ public final class BoundsTest {
         due("the first thing of a new tub bleeds", 5, z.go(1));
     }
 
+    /** A question may be the first call behind the things, and the first behind an image of fewer. */
+    private static void askedFirst() {
+        for (int question = 0; question < 13; question++) {
+            SoakTub x = new SoakTub();
+            x.sheet(0, 8, 0);
+            x.image();
+            x.thing(2, 7);
+            x.thing(2, 7);
+            due("question " + question + " asked first", firstAnswers(question), askedOfTwoVeils(x, question));
+            SoakTub y = new SoakTub();
+            y.sheet(0, 8, 0);
+            y.image();
+            y.thing(2, 7);
+            y.thing(2, 7);
+            y.ahead(1, LAYER, 1);
+            y.undo();
+            boolean ofThing = question < 10;
+            due("asked of no thing", ofThing ? BEYOND : firstAnswers(question + 3), askedOfTwoVeils(y, question));
+        }
+    }
+
+    private static long askedOfTwoVeils(SoakTub x, int question) {
+        switch (question) {
+            case 0: return x.ahead(1, LAYER, 1);
+            case 1: return x.seen(1);
+            case 2: return x.when(1, 0);
+            case 3: return x.treaty(0, 1);
+            case 4: return x.stirFor(1, 0);
+            case 5: return x.put(1, 1);
+            case 6: return x.kindFor(1, 1);
+            case 7: return x.holdsFor(1, 1);
+            case 8: return x.fits(0, 1, 0);
+            case 9: return x.kinds(0, 1);
+            case 10: return x.dyed(7, 0, 1);
+            case 11: return x.murky(0);
+            default: return x.out(7, 3);
+        }
+    }
+
+    /** Two veils' answers; behind them those of three questions of an empty tub. */
+    private static long firstAnswers(int question) {
+        int[] answers = {6, 7, 0, 0, 1, 1, 5, 0, 201, 127, 4, 12, 0, 0, NONE, 0};
+        return answers[question];
+    }
+
     private static void fitsAndHeld() {
         SoakTub x = tub("thing in 7;lye 1");
         x.sheet(0, 16, 0);
@@ -592,6 +647,13 @@ public final class BoundsTest {
         up.write(3, 2, 2);
         due("in the layer in which it was", 199, up.fits(3, 0, 0));
         due("held there", 2, up.held(3, 0, 0));
+        SoakTub third = tub("thing in 6;stone in 1;thing in 7 of 1;lye 1");
+        third.sheet(0, 8, 2);
+        third.write(0, 1, 3);
+        due("the third thing, of colour 1", 1, third.fits(0, 2, 1));
+        due("the third thing, of colour 1, held", 3, third.held(0, 2, 1));
+        due("it can't have bled colour 0", 0, third.fits(0, 2, 0));
+        due("the third thing, of colour 0, held", NONE, third.held(0, 2, 0));
         SoakTub last = eightStones();
         last.sheet(1, 8, 1);
         due("the last thing", 201, last.fits(1, 7, 2));

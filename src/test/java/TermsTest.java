@@ -309,12 +309,20 @@ public final class TermsTest {
         due("it rose by years 0 to 2: 2, 1, 2", 2, tub("dance in 7 holds 0").ahead(0, LAYER, 3));
     }
 
+    /** What a thing, a veil, a stone and a medal rise is told without what they hold, YEAR and SOAKED. */
     private static void risesOfTheOthers() {
-        SoakTub x = tub("thing in 3;veil in 3;stone in 3;medal in 3");
         int[] rises = {0, 1, -1, -2};
-        for (int t = 0; t < rises.length; t++) {
-            due("rises " + t, rises[t], x.of(t, RISES));
-            due("it does " + t, 3 - rises[t], x.ahead(t, LAYER, 1));
+        for (int holds : new int[] {0, 39, 40, 999}) {
+            SoakTub x = tub("thing in 3;veil in 3;stone in 3;medal in 3");
+            for (int year = 0; year < 3; year++) {
+                for (int t = 0; t < rises.length; t++) {
+                    x.change(t, HOLDS, holds);
+                    x.change(t, LAYER, 3);
+                    due("rises " + t, rises[t], x.of(t, RISES));
+                    due("it does " + t, 3 - rises[t], x.ahead(t, LAYER, 1));
+                }
+                x.go(1);
+            }
         }
     }
 
