@@ -408,10 +408,14 @@ public final class SoakTub {
         if (!isWithin(n, 0, MOST_DRAWS) || !isWithin(what, 0, 1)) {
             return found(BEYOND);
         }
-        int clear = Integer.bitCount(tub.clearLayers());
-        int shared = sharedWithLayers(clear);
-        int part = what == 0 ? clear : LAYERS;
-        return power(part / shared, n);
+        int above = Integer.bitCount(tub.clearLayers());
+        int below = LAYERS;
+        // A power of two stands below the line: so halving alone leads to lowest terms.
+        while (below > 1 && above % 2 == 0) {
+            above /= 2;
+            below /= 2;
+        }
+        return power(what == 0 ? above : below, n);
     }
 
     public int seed(int v) {
@@ -663,15 +667,6 @@ public final class SoakTub {
             k = KIND_ABOVE[k];
         }
         return false;
-    }
-
-    /** The greatest divisor of a number and LAYERS: of a power of two, so it is one as well. */
-    private static int sharedWithLayers(int number) {
-        int shared = 1;
-        while (shared < LAYERS && number % (2 * shared) == 0) {
-            shared *= 2;
-        }
-        return shared;
     }
 
     private static long power(long base, int n) {
